@@ -85,6 +85,16 @@ final class Wire {
         return row.toString();
     }
 
+    /** Lets the bus go on with these levels, while a node sees others in their place. */
+    static void show(BitBus bus, int node, String levels, String seen) {
+        for (int i = 0; i < levels.length(); i++) {
+            if (levels.charAt(i) != seen.charAt(i)) {
+                bus.wrong(node, 0);
+            }
+            bus.run(1);
+        }
+    }
+
     /** Tells all that can be seen of a bus, to show that a refused call changes nothing. */
     static String state(BitBus bus, int nodes) {
         StringBuilder row = new StringBuilder();
