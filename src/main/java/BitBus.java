@@ -247,7 +247,7 @@ public final class BitBus {
         private int size;
         private boolean wide;
         private int length;
-        private int checkAt;
+        private int checkAt = MOST_BITS;
         private int sum;
 
         void clear() {
@@ -329,7 +329,8 @@ public final class BitBus {
 
         /** Answers for a frame that has all bits of its check. */
         boolean isCheckRight() {
-            // The sum went on over the check itself: each bit equal to its own cancels one, so 0 is left.
+            // The sum went on over the check itself: a bit equal to the sum's highest one just shifts that out,
+            // so 0 is left if, and only if, all 15 were equal.
             return sum == 0;
         }
 

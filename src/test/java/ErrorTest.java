@@ -222,19 +222,23 @@ public final class ErrorTest {
 
     private static void offCountsInARow() {
         BitBus bus = new BitBus(2);
+        bus.wrong(0, 0);
+        bus.run(40);
         bus.send(0, ID, false, 1, 0x5a);
         bus.send(1, ID, false, 1, 0x5a);
         bus.run(7 * (SLOT + 18) + SLOT + 1);
         DUE.equal("off", bus.look(0, 0), Wire.OFF);
+        DUE.equal("REC of an error before", bus.look(0, 2) + 10 * bus.look(1, 2), 11);
         bus.wrong(0, 30);
         bus.run(40);
         DUE.equal("the other one is idle", bus.look(1, 0), Wire.IDLE);
+        DUE.equal("its counts are 0", bus.look(1, 1) + bus.look(1, 2), 0);
         DUE.equal("one 0 in between", bus.look(0, 0), Wire.OFF);
         bus.run(BEFORE_SLOT + 1);
         DUE.equal("off drives nothing in the slot", bus.run(1), 0);
         DUE.equal("level of the slot", bus.levels() & 1, 1);
         DUE.equal("a frame on the bus holds it off", bus.look(0, 0), Wire.OFF);
-        DUE.equal("it does not read", bus.look(0, 7) + bus.look(0, 2), 0);
+        DUE.equal("it does not read", bus.look(0, 7), 0);
     }
 
     private static void passiveReader() {
