@@ -3,9 +3,11 @@ import java.util.Random;
 /** Long runs of drawn calls (always the same ones), each answer compared with the plain model's. */
 public final class ModelTest {
     private static final Due DUE = new Due();
+    // At most nine calls a round, and all that can be seen at the end: below the 512 calls of an object.
+    private static final int MOST_ROUNDS = 38;
 
     public static void main(String[] args) {
-        for (int seed = 0; seed < 400; seed++) {
+        for (int seed = 0; seed < 1600; seed++) {
             compare(seed);
         }
         DUE.end();
@@ -18,16 +20,17 @@ public final class ModelTest {
         PlainBus plain = new PlainBus(nodes);
         int noise = new int[] {0, 5, 20, 60}[draw.nextInt(4)];
         long levels = -1;
-        for (int round = 0; round < 60; round++) {
+        int rounds = 1 + draw.nextInt(MOST_ROUNDS);
+        for (int round = 0; round < rounds; round++) {
             String at = "seed " + seed + " round " + round;
             for (int i = draw.nextInt(3); i > 0; i--) {
                 send(at, draw, bus, plain);
             }
             for (int i = draw.nextInt(3); i > 0 && draw.nextInt(100) < 2 * noise; i--) {
-                int node = draw.nextInt(nodes);
+                int misled = draw.nextInt(nodes);
                 int after = draw.nextInt(40);
-                bus.wrong(node, after);
-                plain.wrong(node, after);
+                bus.wrong(misled, after);
+                plain.wrong(misled, after);
             }
             tell(at, draw, bus, plain);
             int bits = draw.nextInt(100) < noise ? draw.nextInt(8) : draw.nextInt(120);
@@ -37,8 +40,11 @@ public final class ModelTest {
             }
             DUE.equal(at + " run", bus.run(bits), plain.sent() - before);
             DUE.equal(at + " levels", bus.levels(), levels);
-            DUE.equal(at, Wire.state(bus, nodes), state(plain, levels));
+            int node = draw.nextInt(nodes);
+            int what = draw.nextInt(8);
+            DUE.equal(at + " look(" + node + ", " + what + ")", bus.look(node, what), looks(plain.stations[node])[what]);
         }
+        DUE.equal("seed " + seed, Wire.state(bus, nodes), state(plain, levels));
     }
 
     private static void send(String at, Random draw, BitBus bus, PlainBus plain) {
@@ -74,15 +80,18 @@ public final class ModelTest {
         }
     }
 
+    private static int[] looks(PlainBus.Station s) {
+        boolean inFrame = s.mode == Wire.SENDING || s.mode == Wire.READING;
+        int bits = inFrame ? new PlainBus.Apart(s.raw).bits.length() : 0;
+        return new int[] {s.mode, s.tec, s.rec, s.passive() ? 1 : 0, s.queue.size(), s.inbox.size(), s.errors, bits};
+    }
+
     private static String state(PlainBus plain, long levels) {
         StringBuilder row = new StringBuilder();
         row.append(levels);
         for (PlainBus.Station s : plain.stations) {
-            boolean inFrame = s.mode == Wire.SENDING || s.mode == Wire.READING;
-            int bits = inFrame ? new PlainBus.Apart(s.raw).bits.length() : 0;
-            int[] looks = {s.mode, s.tec, s.rec, s.passive() ? 1 : 0, s.queue.size(), s.inbox.size(), s.errors, bits};
             row.append(" | ");
-            for (int look : looks) {
+            for (int look : looks(s)) {
                 row.append(look).append(' ');
             }
             for (PlainBus.Sent f : s.inbox) {

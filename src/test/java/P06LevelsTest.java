@@ -6,7 +6,7 @@ public final class P06LevelsTest {
         BitBus bus = new BitBus(2);
         DUE.equal("before any", bus.levels(), -1);
         bus.send(0, 0x555, false, 8, 0x0123456789abcdefL);
-        String wire = Wire.ones(64) + Wire.frame(0x555, false, 8, 0x0123456789abcdefL) + Wire.ones(70);
+        String wire = Wire.ones(64) + Wire.frame(0x555, false, 8, 0x0123456789abcdefL) + Wire.ones(20);
         for (int end = 65; end <= wire.length(); end++) {
             bus.run(1);
             long want = Long.parseUnsignedLong(wire.substring(end - 64, end), 2);

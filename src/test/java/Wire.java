@@ -75,12 +75,13 @@ final class Wire {
         return "0".repeat(count);
     }
 
-    /** The next levels of the bus, one bit time after the other. */
+    /** The next levels of the bus; in few calls, since an object is used for at most 512. */
     static String next(BitBus bus, int bits) {
         StringBuilder row = new StringBuilder();
-        for (int i = 0; i < bits; i++) {
-            bus.run(1);
-            row.append((bus.levels() & 1) == 1 ? '1' : '0');
+        for (int left = bits; left > 0; left -= 64) {
+            int part = Math.min(64, left);
+            bus.run(part);
+            row.append(number(bus.levels(), part));
         }
         return row.toString();
     }
