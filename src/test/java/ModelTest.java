@@ -42,7 +42,8 @@ public final class ModelTest {
             DUE.equal(at + " levels", bus.levels(), levels);
             int node = draw.nextInt(nodes);
             int what = draw.nextInt(8);
-            DUE.equal(at + " look(" + node + ", " + what + ")", bus.look(node, what), looks(plain.stations[node])[what]);
+            int want = looks(plain.stations[node])[what];
+            DUE.equal(at + " look(" + node + ", " + what + ")", bus.look(node, what), want);
         }
         DUE.equal("seed " + seed, Wire.state(bus, nodes), state(plain, levels));
     }
