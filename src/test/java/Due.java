@@ -1,11 +1,23 @@
 /** Counts the answers that are not the ones that are due, prints each, and ends the test by them. */
 final class Due {
-    /** A call that may be refused. */
+    /** A test, or a call that may be refused. */
     interface Call {
         void make();
     }
 
     private int wrong;
+    private String sentence = "";
+
+    /** One sentence of the document, and the test that is its own; another one's failure does not hide it. */
+    void hold(String words, Call test) {
+        sentence = words;
+        try {
+            test.make();
+        } catch (RuntimeException e) {
+            tell("the test ended with " + e + " at " + e.getStackTrace()[0]);
+        }
+        sentence = "";
+    }
 
     void equal(String what, long got, long want) {
         if (got != want) {
@@ -19,12 +31,29 @@ final class Due {
         }
     }
 
+    void yes(String what, boolean answer) {
+        if (!answer) {
+            tell(what + " does not hold");
+        }
+    }
+
     void badArgument(String what, Call call) {
         refused(what, call, IllegalArgumentException.class);
     }
 
     void badIndex(String what, Call call) {
         refused(what, call, IndexOutOfBoundsException.class);
+    }
+
+    void notBadArgument(String what, Call call) {
+        try {
+            call.make();
+        } catch (IllegalArgumentException e) {
+            tell(what + " threw " + e + ", though its arguments are fine");
+        } catch (IndexOutOfBoundsException e) {
+            // The arguments were fine; what they ask for is not there, or there is no room.
+            return;
+        }
     }
 
     private void refused(String what, Call call, Class<? extends RuntimeException> want) {
@@ -41,7 +70,7 @@ final class Due {
 
     private void tell(String text) {
         wrong++;
-        System.out.println(text);
+        System.out.println(sentence.isEmpty() ? text : "\"" + sentence + "\": " + text);
     }
 
     void end() {

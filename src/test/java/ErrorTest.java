@@ -1,4 +1,4 @@
-/** Terms: what is an error and what not, its flag, what is behind it, and the counts. */
+/** Terms: what is an ERROR and what not, and when a frame is GOT and SENT. */
 public final class ErrorTest {
     private static final Due DUE = new Due();
     private static final int ID = 0x555;
@@ -7,21 +7,26 @@ public final class ErrorTest {
     private static final int SLOT = BEFORE_SLOT + 1;
     private static final int BEHIND_SLOT = BEFORE_SLOT + 2;
     private static final int END = BEFORE_SLOT + 3;
+    private static final int LAST = END + 6;
 
     public static void main(String[] args) {
-        readerBehindTheCheck();
-        senderBehindTheCheck();
-        lastBitForTheSender();
-        readerWithWrongCheck();
-        readerMissesStuffedBit();
-        twoReadersAckTogether();
-        flagsAndWhatFollows();
-        delimiterBroken();
-        pauseBroken();
-        unansweredGoesOff();
-        offCountsInARow();
-        passiveReader();
-        recIsOneLess();
+        DUE.hold("seeing the same bit a sixth time is an ERROR (of a reader)", ErrorTest::sixthForAReader);
+        DUE.hold("seeing the same bit a sixth time is an ERROR (of a sender)", ErrorTest::sixthForASender);
+        DUE.hold("a stuffed one that is seen as it should be is no error", ErrorTest::stuffedOnesAreFine);
+        DUE.hold("The first bit seen as 1 is an ERROR (of a sender)", ErrorTest::firstBit);
+        DUE.hold("If it sees 0 without having driven it, it is READING", ErrorTest::firstBitOfAReader);
+        DUE.hold("A reader drives 1, but in the SLOT 0, if the check was right", ErrorTest::slotOfAReader);
+        DUE.hold("In the SLOT a sender that sees 1 has an ERROR", ErrorTest::slotOfASender);
+        DUE.hold("The 1 before the SLOT, seen as 0, is an ERROR", () -> oneSeenAsZero(BEFORE_SLOT));
+        DUE.hold("The 1 behind the SLOT, seen as 0, is an ERROR", () -> oneSeenAsZero(BEHIND_SLOT));
+        DUE.hold("those of the END, seen as 0, are an ERROR", ErrorTest::end);
+        DUE.hold("but not the last one of the END for a reader", ErrorTest::lastForAReader);
+        DUE.hold("the last one of the END is an ERROR for a sender", ErrorTest::lastForASender);
+        DUE.hold("A reader whose check was wrong has an ERROR at the bit behind the SLOT", ErrorTest::wrongCheck);
+        DUE.hold("whatever that is", ErrorTest::wrongCheckAndZero);
+        DUE.hold("the check was wrong: each of the bits that it is of, and its own", ErrorTest::eachBitOfTheCheck);
+        DUE.hold("When the sixth bit of the END is seen without an error, a reader has GOT the frame", ErrorTest::got);
+        DUE.hold("With the seventh a sender has SENT it", ErrorTest::sent);
         DUE.end();
     }
 
@@ -34,36 +39,159 @@ public final class ErrorTest {
     private static BitBus afterWrong(int nodes, int node, int bitTime) {
         BitBus bus = busWithFrame(nodes);
         bus.wrong(node, bitTime);
-        bus.run(bitTime + 1);
+        bus.run(bitTime);
+        DUE.equal("no error before " + (bitTime - SLOT), bus.look(node, 6), 0);
+        bus.run(1);
         return bus;
     }
 
-    private static void readerBehindTheCheck() {
-        for (int at = BEFORE_SLOT; at < END + 7; at++) {
-            boolean error = at != SLOT && at != END + 6;
-            BitBus bus = afterWrong(3, 1, at);
-            int mode = at == SLOT ? Wire.READING : error ? Wire.FLAG : Wire.PAUSE;
-            DUE.equal("reader wrong at " + (at - SLOT), bus.look(1, 0), mode);
-            DUE.equal("REC, wrong at " + (at - SLOT), bus.look(1, 2), error ? 1 : 0);
-            DUE.equal("errors, wrong at " + (at - SLOT), bus.look(1, 6), error ? 1 : 0);
-            DUE.equal("TEC, wrong at " + (at - SLOT), bus.look(1, 1), 0);
-            DUE.equal("inbox, wrong at " + (at - SLOT), bus.look(1, 5), at == END + 6 ? 1 : 0);
+    private static void readerFails(String what, BitBus bus, int node) {
+        DUE.equal(what + ", mode", bus.look(node, 0), Wire.FLAG);
+        DUE.equal(what + ", errors", bus.look(node, 6), 1);
+        DUE.equal(what + ", REC", bus.look(node, 2), 1);
+        DUE.equal(what + ", TEC", bus.look(node, 1), 0);
+        DUE.equal(what + ", inbox", bus.look(node, 5), 0);
+    }
+
+    private static void senderFails(String what, BitBus bus) {
+        DUE.equal(what + ", mode", bus.look(0, 0), Wire.FLAG);
+        DUE.equal(what + ", errors", bus.look(0, 6), 1);
+        DUE.equal(what + ", TEC", bus.look(0, 1), 8);
+        DUE.equal(what + ", REC", bus.look(0, 2), 0);
+        DUE.equal(what + ", queue", bus.look(0, 4), 1);
+    }
+
+    private static void sixthForAReader() {
+        BitBus ones = new BitBus(2);
+        ones.wrong(1, 0);
+        ones.run(6);
+        DUE.equal("a 0 and five 1", ones.look(1, 7), 6);
+        ones.run(1);
+        readerFails("a sixth 1", ones, 1);
+        ones.run(5);
+        DUE.equal("five 0 of its flag, seen by the other", ones.look(0, 7), 5);
+        ones.run(1);
+        readerFails("a sixth 0", ones, 0);
+        BitBus stuffed = new BitBus(2);
+        stuffed.send(0, 1, false, 0, 0);
+        stuffed.wrong(1, 5);
+        stuffed.run(5);
+        DUE.equal("five 0 of a frame", stuffed.look(1, 7), 5);
+        stuffed.run(1);
+        readerFails("the stuffed 1 seen as 0", stuffed, 1);
+    }
+
+    private static void sixthForASender() {
+        BitBus zeros = new BitBus(2);
+        zeros.send(0, 1, false, 0, 0);
+        zeros.wrong(0, 5);
+        zeros.run(5);
+        DUE.equal("five 0", zeros.look(0, 7), 5);
+        zeros.run(1);
+        senderFails("the stuffed 1 seen as 0", zeros);
+        BitBus ones = new BitBus(2);
+        ones.send(0, 0x7ff, false, 0, 0);
+        ones.wrong(0, 6);
+        ones.run(6);
+        DUE.equal("a 0 and five 1", ones.look(0, 7), 6);
+        ones.run(1);
+        senderFails("the stuffed 0 seen as 1", ones);
+        // Node 1 fails at the first stuffed 1; its flag and five 0 of the frame are the same, up to the next one.
+        BitBus flag = new BitBus(2);
+        flag.send(0, 1, false, 0, 0);
+        flag.wrong(1, 5);
+        flag.run(11);
+        DUE.equal("five more 0", flag.look(0, 7), 10);
+        flag.run(1);
+        senderFails("another's flag in place of the stuffed 1", flag);
+    }
+
+    private static void stuffedOnesAreFine() {
+        for (int identifier : new int[] {0, 1, 0x7ff, 0x078, 0x7c2}) {
+            BitBus bus = new BitBus(3);
+            bus.send(0, identifier, false, 8, identifier);
+            DUE.equal("sent " + identifier, bus.run(200), 1);
+            DUE.equal("errors", bus.look(0, 6) + bus.look(1, 6) + bus.look(2, 6), 0);
         }
     }
 
-    private static void senderBehindTheCheck() {
-        for (int at = BEFORE_SLOT; at < END + 7; at++) {
-            BitBus bus = afterWrong(2, 0, at);
-            DUE.equal("sender wrong at " + (at - SLOT), bus.look(0, 0), Wire.FLAG);
-            DUE.equal("TEC, wrong at " + (at - SLOT), bus.look(0, 1), 8);
-            DUE.equal("queue, wrong at " + (at - SLOT), bus.look(0, 4), 1);
-            DUE.equal("reader has it, wrong at " + (at - SLOT), bus.look(1, 5), at >= END + 5 ? 1 : 0);
+    private static void firstBit() {
+        senderFails("seen as 1", afterWrong(2, 0, 0));
+        BitBus right = busWithFrame(2);
+        right.run(1);
+        DUE.equal("seen as 0", right.look(0, 0) + 10 * right.look(0, 6), Wire.SENDING);
+    }
+
+    private static void firstBitOfAReader() {
+        BitBus missed = afterWrong(3, 1, 0);
+        DUE.equal("seen as 1 it is none", missed.look(1, 0), Wire.IDLE);
+        DUE.equal("no error of a reader", missed.look(1, 6), 0);
+        DUE.equal("the other reader", missed.look(2, 0), Wire.READING);
+        // 0 1 0 1 ..: what it takes for the first bit is the second 0, two bits later.
+        missed.run(2);
+        DUE.equal("the next 0 is the first bit", missed.look(1, 0), Wire.READING);
+        DUE.equal("one bit", missed.look(1, 7), 1);
+        DUE.equal("three of the other", missed.look(2, 7), 3);
+    }
+
+    private static void slotOfAReader() {
+        BitBus bus = busWithFrame(2);
+        String wire = BITS + "1" + "0" + "1111" + "1111" + "111";
+        DUE.equal("0 in the slot, 1 else", Wire.next(bus, wire.length()), wire);
+        for (int node = 1; node < 3; node++) {
+            BitBus seenAsOne = afterWrong(3, node, SLOT);
+            DUE.equal("a reader that sees a 1 there", seenAsOne.look(node, 0), Wire.READING);
+            DUE.equal("has no error", seenAsOne.look(node, 6), 0);
+            DUE.equal("sent", seenAsOne.run(8), 1);
+            DUE.equal("and got", seenAsOne.look(node, 5), 1);
         }
     }
 
-    private static void lastBitForTheSender() {
-        BitBus bus = afterWrong(2, 0, END + 6);
-        DUE.equal("reader in pause", bus.look(1, 0), Wire.PAUSE);
+    private static void slotOfASender() {
+        senderFails("its reader's 0 seen as 1", afterWrong(2, 0, SLOT));
+        BitBus nobody = new BitBus(2);
+        nobody.send(0, ID, false, 1, 0x5a);
+        nobody.send(1, ID, false, 1, 0x5a);
+        nobody.run(SLOT);
+        DUE.equal("no error before it", nobody.look(0, 6) + nobody.look(1, 6), 0);
+        nobody.run(1);
+        senderFails("two that send the same, and no reader", nobody);
+        BitBus right = busWithFrame(2);
+        right.run(SLOT + 1);
+        DUE.equal("a 0 is no error, though it drove 1", right.look(0, 0) + 10 * right.look(0, 6), Wire.SENDING);
+    }
+
+    private static void oneSeenAsZero(int at) {
+        readerFails("reader", afterWrong(3, 1, at), 1);
+        senderFails("sender", afterWrong(2, 0, at));
+        BitBus right = busWithFrame(2);
+        right.run(at + 1);
+        DUE.equal("a 1 is none", right.look(0, 6) + right.look(1, 6), 0);
+    }
+
+    private static void end() {
+        for (int at = END; at < LAST; at++) {
+            oneSeenAsZero(at);
+        }
+    }
+
+    private static void lastForAReader() {
+        readerFails("the last but one", afterWrong(3, 1, LAST - 1), 1);
+        BitBus bus = afterWrong(3, 1, LAST);
+        DUE.equal("mode", bus.look(1, 0), Wire.PAUSE);
+        DUE.equal("errors", bus.look(1, 6) + bus.look(1, 2), 0);
+        DUE.equal("inbox", bus.look(1, 5), 1);
+        bus.run(2);
+        DUE.equal("a pause as any other", bus.look(1, 0), Wire.PAUSE);
+        bus.run(1);
+        DUE.equal("and idle", bus.look(1, 0), Wire.IDLE);
+    }
+
+    private static void lastForASender() {
+        BitBus bus = afterWrong(2, 0, LAST);
+        senderFails("sender", bus);
+        DUE.equal("reader is in the pause", bus.look(1, 0), Wire.PAUSE);
+        DUE.equal("and has the frame", bus.look(1, 5), 1);
         // The flag begins in the reader's pause: a first bit, and the sixth 0 is the reader's error.
         DUE.equal("both flags", Wire.next(bus, 12), Wire.zeros(12));
         DUE.equal("reader's error", bus.look(1, 2), 1);
@@ -76,210 +204,98 @@ public final class ErrorTest {
         return BITS.indexOf("01011010") + 3;
     }
 
-    private static void readerWithWrongCheck() {
+    private static void wrongCheck() {
         BitBus bus = busWithFrame(3);
         bus.wrong(1, bitOfByte());
         bus.run(SLOT + 1);
         DUE.equal("another one says 0 in the slot", bus.levels() & 1, 0);
         DUE.equal("no error yet", bus.look(1, 6), 0);
         bus.run(1);
-        DUE.equal("error behind the slot", bus.look(1, 0), Wire.FLAG);
-        DUE.equal("counted once", bus.look(1, 2) + 10 * bus.look(1, 6), 11);
+        readerFails("a 1 behind the slot", bus, 1);
         DUE.equal("sender goes on", bus.look(0, 0), Wire.SENDING);
         bus.run(1);
         DUE.equal("sender sees the flag", bus.look(0, 1), 8);
         DUE.equal("other reader sees the flag", bus.look(2, 2), 1);
-        BitBus seesZero = busWithFrame(3);
-        seesZero.wrong(1, bitOfByte());
-        seesZero.run(BEHIND_SLOT);
-        seesZero.wrong(1, 0);
-        seesZero.run(1);
-        DUE.equal("a 0 behind the slot is the same one error", seesZero.look(1, 6) + 10 * seesZero.look(1, 2), 11);
         BitBus alone = busWithFrame(2);
         alone.wrong(1, bitOfByte());
         alone.run(SLOT + 1);
-        DUE.equal("nobody says 0 in the slot", alone.levels() & 1, 1);
-        DUE.equal("sender's error in the slot", alone.look(0, 0), Wire.FLAG);
-        DUE.equal("sender's TEC", alone.look(0, 1), 8);
+        DUE.equal("it does not say 0 in the slot", alone.levels() & 1, 1);
+        senderFails("nobody says 0 in the slot", alone);
         DUE.equal("reader reads on", alone.look(1, 0), Wire.READING);
     }
 
-    private static void readerMissesStuffedBit() {
-        BitBus bus = new BitBus(2);
-        bus.send(0, 1, false, 0, 0);
-        bus.wrong(1, 5);
-        bus.run(5);
-        DUE.equal("before it", bus.look(1, 7), 5);
+    private static void wrongCheckAndZero() {
+        BitBus bus = busWithFrame(3);
+        bus.wrong(1, bitOfByte());
+        bus.run(BEHIND_SLOT);
+        bus.wrong(1, 0);
         bus.run(1);
-        DUE.equal("a sixth 0", bus.look(1, 0), Wire.FLAG);
-        DUE.equal("REC", bus.look(1, 2), 1);
-        DUE.equal("sender saw it rightly", bus.look(0, 7), 5);
-        bus.run(1);
-        DUE.equal("sender drives 0 and sees 0", bus.look(0, 0), Wire.SENDING);
-        bus.run(4);
-        DUE.equal("five 0 of both", bus.look(0, 7), 10);
-        bus.run(1);
-        DUE.equal("a sixth 0 by the flag", bus.look(0, 0), Wire.FLAG);
-        DUE.equal("TEC", bus.look(0, 1), 8);
+        readerFails("a 0 behind the slot is the same one error", bus, 1);
+        BitBus before = busWithFrame(3);
+        before.wrong(1, bitOfByte());
+        before.run(BEFORE_SLOT);
+        before.wrong(1, 0);
+        before.run(1);
+        readerFails("a 0 before the slot is one by itself", before, 1);
     }
 
-    private static void twoReadersAckTogether() {
-        BitBus bus = busWithFrame(4);
-        bus.wrong(2, SLOT);
-        DUE.equal("sent", bus.run(END + 7), 1);
-        DUE.equal("a reader that sees its 0 as 1 has no error", bus.look(2, 6), 0);
-        DUE.equal("and got it", bus.look(2, 5), 1);
-    }
-
-    private static void flagsAndWhatFollows() {
-        BitBus bus = busWithFrame(2);
-        bus.wrong(0, 0);
-        String wire = Wire.zeros(12) + Wire.ones(11) + BITS + "1" + "0" + "1" + "1111111";
-        DUE.equal("two flags, delimiter, pause, again", Wire.next(bus, wire.length()), wire);
-        BitBus blind = busWithFrame(2);
-        blind.wrong(0, 0);
-        blind.run(1);
-        for (int i = 1; i <= 6; i++) {
-            DUE.equal("in the flag " + i, blind.look(0, 0), Wire.FLAG);
-            blind.wrong(0, 0);
-            blind.run(1);
-        }
-        DUE.equal("whatever it saw", blind.look(0, 0), Wire.WAITING);
-        // The reader's own flag goes on for five bit times more.
-        blind.run(4);
-        DUE.equal("waits for a 1", blind.look(0, 0), Wire.WAITING);
-        blind.wrong(0, 0);
-        blind.run(1);
-        DUE.equal("a 0 seen as 1", blind.look(0, 0), Wire.DELIMITER);
-    }
-
-    private static void delimiterBroken() {
-        BitBus bus = busWithFrame(2);
-        bus.wrong(0, 0);
-        bus.run(13);
-        DUE.equal("delimiter", bus.look(0, 0), Wire.DELIMITER);
-        bus.run(6);
-        DUE.equal("six of seven", bus.look(0, 0), Wire.DELIMITER);
-        bus.wrong(0, 0);
-        bus.run(1);
-        DUE.equal("a 0", bus.look(0, 0), Wire.WAITING);
-        DUE.equal("no error", bus.look(0, 6), 1);
-        bus.run(1);
-        DUE.equal("a 1", bus.look(0, 0), Wire.DELIMITER);
-        bus.run(6);
-        DUE.equal("counted anew", bus.look(0, 0), Wire.DELIMITER);
-        bus.run(1);
-        DUE.equal("seven", bus.look(0, 0), Wire.PAUSE);
-    }
-
-    private static void pauseBroken() {
-        for (int at = 0; at < 3; at++) {
+    private static void eachBitOfTheCheck() {
+        String body = Wire.body(ID, false, 1, 0x5a);
+        int first = Wire.stuffed(body).length();
+        int tried = 0;
+        for (int at = 14; at < BEFORE_SLOT; at++) {
+            String seen = BITS.substring(0, at) + (BITS.charAt(at) == '1' ? "0" : "1") + BITS.substring(at + 1);
+            // A length or a stuffed bit seen wrongly makes another frame of it.
+            boolean length = at < Wire.stuffed(body.substring(0, 19)).length();
+            if (length || stuffsElsewhere(seen)) {
+                continue;
+            }
+            tried += at >= first ? 1 : 0;
             BitBus bus = busWithFrame(2);
-            bus.send(0, ID, false, 0, 0);
-            bus.run(END + 7 + at);
-            bus.wrong(0, 0);
+            bus.wrong(1, at);
+            bus.run(SLOT + 1);
+            DUE.equal("no 0 in the slot, wrong at " + at, bus.levels() & 1, 1);
             bus.run(1);
-            DUE.equal("a 0 in the pause, " + at, bus.look(0, 0), Wire.READING);
-            DUE.equal("is the first bit, " + at, bus.look(0, 7), 1);
+            DUE.equal("error behind the slot, wrong at " + at, bus.look(1, 6) + 10 * bus.look(1, 2), 11);
         }
-        BitBus idle = new BitBus(2);
-        idle.wrong(0, 0);
-        idle.run(6);
-        DUE.equal("a 0, then five 1", idle.look(0, 7), 6);
-        idle.run(1);
-        DUE.equal("a sixth 1", idle.look(0, 0), Wire.FLAG);
-        DUE.equal("a reader's error", idle.look(0, 2), 1);
+        DUE.yes("many of the check's own", tried > 7);
     }
 
-    /** Two senders of one frame and no reader: none says 0 in the slot, time after time. */
-    private static void unansweredGoesOff() {
-        BitBus bus = new BitBus(2);
-        bus.send(0, ID, false, 1, 0x5a);
-        bus.send(1, ID, false, 1, 0x5a);
-        for (int time = 1; time <= 7; time++) {
-            DUE.equal("frame " + time, Wire.next(bus, SLOT + 1), BITS + "11");
-            DUE.equal("TEC " + time, bus.look(0, 1), 8 * time);
-            DUE.equal("passive " + time, bus.look(0, 3), time >= 4 ? 1 : 0);
-            DUE.equal("flag " + time, bus.look(1, 0), Wire.FLAG);
-            String flag = time >= 4 ? Wire.ones(6) : Wire.zeros(6);
-            DUE.equal("after " + time, Wire.next(bus, 17), flag + Wire.ones(11));
-            DUE.equal("idle " + time, bus.look(0, 0), Wire.IDLE);
+    private static boolean stuffsElsewhere(String seen) {
+        for (int end = 5; end <= seen.length(); end++) {
+            boolean five = seen.substring(end - 5, end).matches("00000|11111");
+            if (five != BITS.substring(end - 5, end).matches("00000|11111")) {
+                return true;
+            }
         }
-        DUE.equal("last frame", Wire.next(bus, SLOT + 1), BITS + "11");
-        DUE.equal("TEC 64", bus.look(0, 1), 64);
-        DUE.equal("off", bus.look(0, 0) + 10 * bus.look(1, 0), 11 * Wire.OFF);
-        DUE.equal("39 bits", Wire.next(bus, 39), Wire.ones(39));
-        DUE.equal("still off", bus.look(0, 0), Wire.OFF);
-        DUE.equal("still TEC", bus.look(0, 1), 64);
-        DUE.equal("still passive", bus.look(0, 3), 1);
-        bus.run(1);
-        DUE.equal("idle again", bus.look(0, 0), Wire.IDLE);
-        DUE.equal("no counts", bus.look(0, 1) + bus.look(0, 2) + bus.look(0, 3), 0);
-        DUE.equal("errors so far", bus.look(0, 6), 8);
-        DUE.equal("frame stayed", bus.look(0, 4), 1);
-        DUE.equal("and goes again", Wire.next(bus, SLOT + 1), BITS + "11");
+        return false;
     }
 
-    private static void offCountsInARow() {
-        BitBus bus = new BitBus(2);
-        bus.wrong(0, 0);
-        bus.run(40);
-        bus.send(0, ID, false, 1, 0x5a);
-        bus.send(1, ID, false, 1, 0x5a);
-        bus.run(7 * (SLOT + 18) + SLOT + 1);
-        DUE.equal("off", bus.look(0, 0), Wire.OFF);
-        DUE.equal("REC of an error before", bus.look(0, 2) + 10 * bus.look(1, 2), 11);
-        bus.wrong(0, 30);
-        bus.run(40);
-        DUE.equal("the other one is idle", bus.look(1, 0), Wire.IDLE);
-        DUE.equal("its counts are 0", bus.look(1, 1) + bus.look(1, 2), 0);
-        DUE.equal("one 0 in between", bus.look(0, 0), Wire.OFF);
-        bus.run(BEFORE_SLOT + 1);
-        DUE.equal("off drives nothing in the slot", bus.run(1), 0);
-        DUE.equal("level of the slot", bus.levels() & 1, 1);
-        DUE.equal("a frame on the bus holds it off", bus.look(0, 0), Wire.OFF);
-        DUE.equal("it does not read", bus.look(0, 7), 0);
-    }
-
-    private static void passiveReader() {
-        BitBus bus = new BitBus(2);
-        for (int time = 1; time <= 31; time++) {
-            bus.wrong(1, 0);
-            bus.run(40);
-            DUE.equal("REC of 1, " + time, bus.look(1, 2), time);
-            DUE.equal("REC of 0, " + time, bus.look(0, 2), time);
-            DUE.equal("passive " + time, bus.look(1, 3), 0);
-        }
-        bus.wrong(1, 0);
-        bus.run(7);
-        DUE.equal("REC 32", bus.look(1, 2), 32);
-        DUE.equal("passive", bus.look(1, 3), 1);
-        DUE.equal("in a flag", bus.look(1, 0), Wire.FLAG);
-        DUE.equal("that nobody sees", Wire.next(bus, 6), Wire.ones(6));
-        DUE.equal("then waiting", bus.look(1, 0), Wire.WAITING);
-        bus.run(30);
-        DUE.equal("other one", bus.look(0, 2), 31);
-        bus.send(0, ID, false, 1, 0x5a);
-        DUE.equal("passive ones still say 0 in the slot", bus.run(END + 7), 1);
-        DUE.equal("REC 31", bus.look(1, 2), 31);
-        DUE.equal("passive no more", bus.look(1, 3), 0);
-    }
-
-    private static void recIsOneLess() {
-        BitBus bus = new BitBus(2);
-        bus.wrong(1, 0);
-        bus.run(40);
-        DUE.equal("REC 1", bus.look(1, 2), 1);
-        bus.filter(1, 1, 0);
-        bus.send(0, ID, false, 1, 0x5a);
+    private static void got() {
+        BitBus bus = busWithFrame(3);
         bus.run(END + 5);
-        DUE.equal("not before the sixth bit of the end", bus.look(1, 2), 1);
+        DUE.equal("five bits of the end", bus.look(1, 5) + bus.look(2, 5), 0);
         bus.run(1);
-        DUE.equal("with it, also if the filter leaves it out", bus.look(1, 2), 0);
-        DUE.equal("left out", bus.look(1, 5), 0);
-        bus.run(10);
-        bus.send(0, ID, false, 1, 0x5a);
-        bus.run(END + 20);
-        DUE.equal("never below 0", bus.look(1, 2) + bus.look(0, 1), 0);
+        DUE.equal("six", bus.look(1, 5) + bus.look(2, 5), 2);
+        DUE.equal("still reading", bus.look(1, 0), Wire.READING);
+        bus.run(1);
+        DUE.equal("seven", bus.look(1, 5) + bus.look(2, 5), 2);
+        DUE.equal("in the pause", bus.look(1, 0), Wire.PAUSE);
+        DUE.equal("not the sender", bus.look(0, 5), 0);
+        DUE.equal("not if the sixth is an error", afterWrong(3, 1, END + 5).look(1, 5), 0);
+        DUE.equal("of a sender that fails with the seventh", afterWrong(3, 0, LAST).look(1, 5), 1);
+    }
+
+    private static void sent() {
+        BitBus bus = busWithFrame(2);
+        DUE.equal("six bits of the end", bus.run(LAST), 0);
+        DUE.equal("it is in the queue", bus.look(0, 4), 1);
+        DUE.equal("still sending", bus.look(0, 0), Wire.SENDING);
+        DUE.equal("seven", bus.run(1), 1);
+        DUE.equal("it is not in the queue", bus.look(0, 4), 0);
+        DUE.equal("in the pause", bus.look(0, 0), Wire.PAUSE);
+        BitBus failed = busWithFrame(2);
+        failed.wrong(0, LAST);
+        DUE.equal("not if the seventh is an error", failed.run(LAST + 1), 0);
     }
 }

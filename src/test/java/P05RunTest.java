@@ -3,32 +3,69 @@ public final class P05RunTest {
     private static final Due DUE = new Due();
 
     public static void main(String[] args) {
-        countsSent();
-        countsEachSender();
-        isTheSameInParts();
-        refuses();
+        DUE.hold("So many bit times go by", P05RunTest::soMany);
+        DUE.hold("0 bit times: nothing goes by", P05RunTest::none);
+        DUE.hold("1000 bit times", P05RunTest::thousand);
+        DUE.hold("how often a frame was SENT in them", P05RunTest::countsSent);
+        DUE.hold("how often, by each node that sent it", P05RunTest::countsEachSender);
+        DUE.hold("bit times are the same in one call or in many", P05RunTest::isTheSameInParts);
+        DUE.hold("IllegalArgumentException: bits is not 0 .. 1000", P05RunTest::refuses);
         DUE.end();
+    }
+
+    /** The bit times are counted by one that is seen wrongly on a bus at rest. */
+    private static void goBy(int bits) {
+        BitBus bus = new BitBus(2);
+        bus.wrong(0, bits);
+        bus.wrong(1, bits - 1);
+        bus.run(bits);
+        DUE.equal("not more than " + bits, bus.look(0, 0), Wire.IDLE);
+        DUE.equal("not less than " + bits, bus.look(1, 0), Wire.READING);
+    }
+
+    private static void soMany() {
+        for (int bits : new int[] {1, 2, 63, 64, 65, 999}) {
+            goBy(bits);
+        }
+    }
+
+    private static void none() {
+        BitBus bus = new BitBus(2);
+        bus.send(0, 77, false, 0, 0);
+        bus.wrong(1, 0);
+        String before = Wire.state(bus, 2);
+        DUE.equal("run(0)", bus.run(0), 0);
+        DUE.equal("all is as it was", Wire.state(bus, 2), before);
+        bus.run(1);
+        DUE.equal("what is wrong next is so still", bus.look(1, 0), Wire.IDLE);
+    }
+
+    private static void thousand() {
+        goBy(1000);
+        BitBus bus = new BitBus(2);
+        for (int i = 0; i < 4; i++) {
+            bus.send(0, 7 + i, false, 0, 0);
+        }
+        DUE.equal("all four in it", bus.run(1000), 4);
     }
 
     private static void countsSent() {
         BitBus bus = new BitBus(2);
-        DUE.equal("nothing to send", bus.run(1000), 0);
+        DUE.equal("nothing to send", bus.run(100), 0);
         bus.send(0, 77, false, 2, 0x1234);
         bus.send(1, 78, true, 0, 0);
-        DUE.equal("no bit time", bus.run(0), 0);
-        DUE.equal("no bit time has no level", bus.levels(), -1);
         int first = Wire.frame(77, false, 2, 0x1234).length();
         int second = Wire.frame(78, true, 0, 0).length();
         // 78 as a long identifier begins with eleven 0 and goes first.
         DUE.equal("up to the sixth bit of the end", bus.run(second - 1), 0);
         DUE.equal("the seventh", bus.run(1), 1);
         DUE.equal("pause and next frame but one bit", bus.run(3 + first - 1), 0);
-        DUE.equal("its last bit", bus.run(1), 1);
-        DUE.equal("no more", bus.run(500), 0);
+        DUE.equal("its last bit and more", bus.run(500), 1);
         bus.send(0, 1, false, 0, 0);
         bus.send(0, 2, false, 0, 0);
         bus.send(1, 3, false, 0, 0);
         DUE.equal("three in one", bus.run(1000), 3);
+        DUE.equal("none of them again", bus.run(1000), 0);
     }
 
     private static void countsEachSender() {
@@ -61,15 +98,11 @@ public final class P05RunTest {
     }
 
     private static void refuses() {
-        BitBus bus = new BitBus(2);
-        bus.send(0, 5, false, 0, 0);
-        bus.run(7);
-        String before = Wire.state(bus, 2);
-        DUE.badArgument("-1", () -> bus.run(-1));
-        DUE.badArgument("1001", () -> bus.run(1001));
-        DUE.badArgument("the least", () -> bus.run(Integer.MIN_VALUE));
-        DUE.badArgument("the most", () -> bus.run(Integer.MAX_VALUE));
-        DUE.equal("refused changes nothing", Wire.state(bus, 2), before);
-        DUE.equal("1000 is fine", bus.run(1000), 1);
+        for (int nodes = 2; nodes <= 4; nodes++) {
+            Refused refused = new Refused(DUE, nodes);
+            for (int bits : new int[] {-1, 1001, Integer.MIN_VALUE, Integer.MAX_VALUE}) {
+                refused.badArgument("run(" + bits + ")", bus -> bus.run(bits));
+            }
+        }
     }
 }

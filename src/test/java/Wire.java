@@ -105,7 +105,8 @@ final class Wire {
             for (int what = 0; what < 8; what++) {
                 row.append(bus.look(n, what)).append(' ');
             }
-            for (int i = 0; i < bus.look(n, 5); i++) {
+            int inbox = bus.look(n, 5);
+            for (int i = 0; i < inbox; i++) {
                 row.append(bus.got(n, i, 0)).append('/').append(bus.got(n, i, 1)).append('/');
                 row.append(bus.got(n, i, 2)).append('/').append(bus.bytes(n, i)).append(' ');
             }
