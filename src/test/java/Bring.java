@@ -19,9 +19,12 @@ final class Bring {
      * is still in the queue. Each error of node 0 is one of node 1 too, a reader.
      */
     static void tec(BitBus bus, int tec) {
-        while (bus.look(0, 1) + 8 <= tec) {
+        for (int from = bus.look(0, 1); from + 8 <= tec; from += 8) {
             senderError(bus);
             rest(bus);
+        }
+        if (bus.look(0, 1) != tec) {
+            throw new IllegalStateException("TEC is " + bus.look(0, 1) + ", not " + tec);
         }
     }
 
@@ -38,9 +41,12 @@ final class Bring {
 
     /** With both at rest: raises REC of node 1 to this one; that of node 0, which sees its flags, with it. */
     static void rec(BitBus bus, int rec) {
-        while (bus.look(1, 2) < rec) {
+        for (int from = bus.look(1, 2); from < rec; from++) {
             readerError(bus);
             bus.run(33);
+        }
+        if (bus.look(1, 2) != rec) {
+            throw new IllegalStateException("REC is " + bus.look(1, 2) + ", not " + rec);
         }
     }
 

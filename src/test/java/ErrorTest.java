@@ -25,6 +25,7 @@ public final class ErrorTest {
         DUE.hold("A reader whose check was wrong has an ERROR at the bit behind the SLOT", ErrorTest::wrongCheck);
         DUE.hold("whatever that is", ErrorTest::wrongCheckAndZero);
         DUE.hold("the check was wrong: each of the bits that it is of, and its own", ErrorTest::eachBitOfTheCheck);
+        DUE.hold("the check was wrong: all other ones but the right one", ErrorTest::eachOtherCheck);
         DUE.hold("When the sixth bit of the END is seen without an error, a reader has GOT the frame", ErrorTest::got);
         DUE.hold("With the seventh a sender has SENT it", ErrorTest::sent);
         DUE.end();
@@ -239,36 +240,71 @@ public final class ErrorTest {
         readerFails("a 0 before the slot is one by itself", before, 1);
     }
 
+    /** For each bit frames in which it can be seen wrongly and still nothing about stuffed bits changes. */
     private static void eachBitOfTheCheck() {
-        String body = Wire.body(ID, false, 1, 0x5a);
-        int first = Wire.stuffed(body).length();
-        int tried = 0;
-        for (int at = 14; at < BEFORE_SLOT; at++) {
-            String seen = BITS.substring(0, at) + (BITS.charAt(at) == '1' ? "0" : "1") + BITS.substring(at + 1);
-            // A length or a stuffed bit seen wrongly makes another frame of it.
-            boolean length = at < Wire.stuffed(body.substring(0, 19)).length();
-            if (length || stuffsElsewhere(seen)) {
-                continue;
+        // Behind the four bits of the length, of which another one makes another frame: the byte and the check.
+        for (int place = 19; place < 19 + 8 + 15; place++) {
+            int tried = 0;
+            for (int identifier = 0; identifier < 2048 && tried < 5; identifier++) {
+                String bits = Wire.checked(Wire.body(identifier, false, 1, 0x5a));
+                if (staysStuffed(bits, place)) {
+                    tried++;
+                    failsBehindTheSlot(identifier, bits, place);
+                }
             }
-            tried += at >= first ? 1 : 0;
-            BitBus bus = busWithFrame(2);
-            bus.wrong(1, at);
-            bus.run(SLOT + 1);
-            DUE.equal("no 0 in the slot, wrong at " + at, bus.levels() & 1, 1);
-            bus.run(1);
-            DUE.equal("error behind the slot, wrong at " + at, bus.look(1, 6) + 10 * bus.look(1, 2), 11);
+            DUE.equal("frames for place " + place, tried, 5);
         }
-        DUE.yes("many of the check's own", tried > 7);
     }
 
-    private static boolean stuffsElsewhere(String seen) {
-        for (int end = 5; end <= seen.length(); end++) {
-            boolean five = seen.substring(end - 5, end).matches("00000|11111");
-            if (five != BITS.substring(end - 5, end).matches("00000|11111")) {
-                return true;
+    private static boolean staysStuffed(String bits, int place) {
+        String other = bits.substring(0, place) + (bits.charAt(place) == '1' ? "0" : "1") + bits.substring(place + 1);
+        String levels = Wire.stuffed(bits);
+        String seen = Wire.stuffed(other);
+        int differ = 0;
+        for (int i = 0; i < levels.length() && levels.length() == seen.length(); i++) {
+            differ += levels.charAt(i) != seen.charAt(i) ? 1 : 0;
+        }
+        return differ == 1;
+    }
+
+    private static void failsBehindTheSlot(int identifier, String bits, int place) {
+        String what = "frame " + identifier + " wrong at " + place;
+        BitBus bus = new BitBus(2);
+        bus.send(0, identifier, false, 1, 0x5a);
+        bus.wrong(1, Wire.stuffed(bits.substring(0, place)).length());
+        bus.run(Wire.stuffed(bits).length() + 2);
+        DUE.equal(what + ", no 0 in the slot", bus.levels() & 1, 1);
+        DUE.equal(what + ", no error yet", bus.look(1, 6), 0);
+        bus.run(1);
+        DUE.equal(what + ", error behind the slot", bus.look(1, 6) + 10 * bus.look(1, 2), 11);
+    }
+
+    /** A reader is shown each of the 2^15 checks behind the same body, if there is a frame of the same size for it. */
+    private static void eachOtherCheck() {
+        int tried = 0;
+        for (int other = 0; other < 1 << 15; other++) {
+            for (int identifier = 0x555; identifier < 0x600; identifier++) {
+                String body = Wire.body(identifier, false, 0, 0);
+                String levels = Wire.stuffed(Wire.checked(body));
+                String seen = Wire.stuffed(body + Wire.number(Wire.checkOf(body) ^ other, 15));
+                if (levels.length() == seen.length()) {
+                    tried++;
+                    isAnswered(identifier, levels, seen, other == 0);
+                    break;
+                }
             }
         }
-        return false;
+        DUE.equal("checks", tried, 1 << 15);
+    }
+
+    private static void isAnswered(int identifier, String levels, String seen, boolean right) {
+        BitBus bus = new BitBus(2);
+        bus.send(0, identifier, false, 0, 0);
+        Wire.show(bus, 1, levels, seen);
+        bus.run(2);
+        DUE.equal("slot of " + identifier + " seen as " + seen, bus.levels() & 1, right ? 0 : 1);
+        bus.run(1);
+        DUE.equal("errors of " + identifier + " seen as " + seen, bus.look(1, 6), right ? 0 : 1);
     }
 
     private static void got() {

@@ -8,6 +8,7 @@ public final class ModesTest {
     private static final int FLAGS = 11;
 
     public static void main(String[] args) {
+        DUE.hold("IDLE: drives 1, or, with a frame in the queue, 0", ModesTest::idle);
         DUE.hold("FLAG: it drives 0 for 6 bit times", ModesTest::flagOfZeros);
         DUE.hold("FLAG: else 1, for 6 bit times", ModesTest::flagOfOnes);
         DUE.hold("FLAG: whatever it sees", ModesTest::flagIsBlind);
@@ -23,6 +24,22 @@ public final class ModesTest {
         DUE.hold("OFF: drives 1, and takes no part", ModesTest::offTakesNoPart);
         DUE.hold("OFF: the frame stays and goes when it is IDLE", ModesTest::offKeepsItsFrames);
         DUE.end();
+    }
+
+    private static void idle() {
+        BitBus bus = new BitBus(2);
+        DUE.equal("nothing to send", Wire.next(bus, 64), Wire.ones(64));
+        DUE.equal("idle all the time", bus.look(0, 0) + bus.look(1, 0), Wire.IDLE);
+        bus.send(0, ID, false, 0, 0);
+        DUE.equal("idle until the next bit time", bus.look(0, 0), Wire.IDLE);
+        DUE.equal("a frame in the queue", Wire.next(bus, 1), "0");
+        DUE.equal("sending", bus.look(0, 0), Wire.SENDING);
+        DUE.equal("reading", bus.look(1, 0), Wire.READING);
+        // Though lower, what comes when another frame has begun waits for the end of it, and for the pause.
+        bus.send(1, 0, false, 0, 0);
+        String rest = Wire.frame(ID, false, 0, 0).substring(1) + "111";
+        DUE.equal("the frame that has begun", Wire.next(bus, rest.length()), rest);
+        DUE.equal("then the other", Wire.next(bus, 12), "000001" + "000001");
     }
 
     /** Two senders of one frame and no reader: both have an error in the slot, in one bit time. */

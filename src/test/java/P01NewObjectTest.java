@@ -37,6 +37,8 @@ public final class P01NewObjectTest {
         countsNodes(1, 2);
         countsNodes(0, 2);
         countsNodes(-1, 2);
+        countsNodes(-3, 2);
+        countsNodes(-4, 2);
         countsNodes(Integer.MIN_VALUE, 2);
     }
 

@@ -82,13 +82,17 @@ public final class P04WrongTest {
     }
 
     private static void toldTwice() {
+        BitBus apart = new BitBus(2);
+        apart.wrong(1, 1);
+        apart.run(1);
+        apart.wrong(1, 0);
+        apart.run(1);
+        DUE.equal("wrong once, told in two bit times", apart.look(1, 0), Wire.READING);
         BitBus bus = new BitBus(2);
         bus.wrong(1, 1);
-        bus.run(1);
-        bus.wrong(1, 0);
-        bus.wrong(1, 0);
-        bus.run(1);
-        DUE.equal("wrong once", bus.look(1, 0), Wire.READING);
+        bus.wrong(1, 1);
+        bus.run(2);
+        DUE.equal("wrong once, told in two calls", bus.look(1, 0), Wire.READING);
         bus.wrong(1, 0);
         bus.run(1);
         DUE.equal("told again behind it", bus.look(1, 7), 2);
