@@ -13,6 +13,9 @@ public final class ErrorTest {
         DUE.hold("seeing the same bit a sixth time is an ERROR (of a reader)", ErrorTest::sixthForAReader);
         DUE.hold("seeing the same bit a sixth time is an ERROR (of a sender)", ErrorTest::sixthForASender);
         DUE.hold("a stuffed one that is seen as it should be is no error", ErrorTest::stuffedOnesAreFine);
+        DUE.hold("a stuffed bit is due by what it has seen: where none is on the bus", ErrorTest::dueForOneAlone);
+        DUE.hold("a stuffed bit is due by what it has seen: not where one is on the bus", ErrorTest::dueForOthers);
+        DUE.hold("a stuffed bit is due by what a sender that gave way has seen", ErrorTest::dueForOneThatGaveWay);
         DUE.hold("The first bit seen as 1 is an ERROR (of a sender)", ErrorTest::firstBit);
         DUE.hold("If it sees 0 without having driven it, it is READING", ErrorTest::firstBitOfAReader);
         DUE.hold("A reader drives 1, but in the SLOT 0, if the check was right", ErrorTest::slotOfAReader);
@@ -114,6 +117,53 @@ public final class ErrorTest {
             DUE.equal("sent " + identifier, bus.run(200), 1);
             DUE.equal("errors", bus.look(0, 6) + bus.look(1, 6) + bus.look(2, 6), 0);
         }
+    }
+
+    /** Four 1 and a 0 that node 1 sees as a fifth 1: what comes next is a stuffed bit for it alone. */
+    private static void dueForOneAlone() {
+        BitBus zero = new BitBus(3);
+        zero.send(0, 0b11110010101, false, 0, 0);
+        zero.wrong(1, 5);
+        DUE.equal("levels", Wire.next(zero, 7), "0" + "1111" + "00");
+        DUE.equal("a 0 is taken out as a stuffed one", zero.look(1, 7), 6);
+        DUE.equal("and is no error", zero.look(1, 6), 0);
+        DUE.equal("bits of the sender", zero.look(0, 7), 7);
+        DUE.equal("bits of the other reader", zero.look(2, 7), 7);
+        BitBus one = new BitBus(3);
+        one.send(0, 0b11110101010, false, 0, 0);
+        one.wrong(1, 5);
+        DUE.equal("levels", Wire.next(one, 7), "0" + "1111" + "01");
+        readerFails("a 1 is the sixth", one, 1);
+        DUE.equal("but not that of the others", one.look(0, 6) + one.look(2, 6), 0);
+    }
+
+    /** Five 0, of which node 1 sees the third as 1: the stuffed 1 behind them is one of the frame for it. */
+    private static void dueForOthers() {
+        BitBus bus = new BitBus(3);
+        bus.send(0, 0b00001010101, false, 0, 0);
+        bus.wrong(1, 2);
+        DUE.equal("levels", Wire.next(bus, 6), "00000" + "1");
+        DUE.equal("bits seen", bus.look(1, 7), 6);
+        DUE.equal("no error", bus.look(1, 6), 0);
+        DUE.equal("bits of the sender", bus.look(0, 7), 5);
+        DUE.equal("bits of the other reader", bus.look(2, 7), 5);
+    }
+
+    /** Node 0 sees its 1 behind four 0 as 0 and gives way; nobody sends then, and the bus is at 1. */
+    private static void dueForOneThatGaveWay() {
+        BitBus bus = new BitBus(2);
+        bus.send(0, 0b00010101010, false, 0, 0);
+        bus.wrong(0, 4);
+        bus.run(5);
+        DUE.equal("gave way", bus.look(0, 0), Wire.READING);
+        DUE.equal("five 0", bus.look(0, 7), 5);
+        bus.run(1);
+        DUE.equal("a stuffed 1", bus.look(0, 7), 5);
+        DUE.equal("a second 1 for the other one", bus.look(1, 7), 6);
+        bus.run(4);
+        DUE.equal("the stuffed 1 counts: five of them", bus.look(0, 7), 9);
+        DUE.equal("sixth 1 of the other one, whose first was the one that was sent", bus.look(1, 6), 1);
+        DUE.equal("not yet that of node 0", bus.look(0, 6), 0);
     }
 
     private static void firstBit() {

@@ -10,6 +10,7 @@ public final class P01NewObjectTest {
         DUE.hold("queues are empty", P01NewObjectTest::queuesAreEmpty);
         DUE.hold("inboxes are empty", P01NewObjectTest::inboxesAreEmpty);
         DUE.hold("IDLE (at first), and counts of 0", P01NewObjectTest::allIsNought);
+        DUE.hold("a new object has nothing of another one", P01NewObjectTest::isOnItsOwn);
         DUE.end();
     }
 
@@ -81,6 +82,23 @@ public final class P01NewObjectTest {
                 DUE.badIndex("bytes of " + n, () -> bus.bytes(node, 0));
                 DUE.badIndex("take of " + n, () -> bus.take(node));
             }
+        }
+    }
+
+    private static void isOnItsOwn() {
+        String fresh = Wire.state(new BitBus(3), 3);
+        BitBus before = new BitBus(3);
+        BitBus busy = Refused.busy(3);
+        BitBus behind = new BitBus(3);
+        busy.run(500);
+        DUE.yes("something goes on on the busy one", !Wire.state(busy, 3).equals(fresh));
+        for (BitBus bus : new BitBus[] {before, behind}) {
+            DUE.equal("as a new one", Wire.state(bus, 3), fresh);
+            DUE.equal("nothing to send", bus.run(1000), 0);
+            DUE.equal("nothing is seen wrongly", Wire.state(bus, 3), fresh);
+            bus.send(0, 0x522, false, 0, 0);
+            bus.run(100);
+            DUE.equal("no filter", bus.look(1, 5) + bus.look(2, 5), 2);
         }
     }
 

@@ -8,6 +8,7 @@ public final class P06LevelsTest {
         DUE.hold("the latest 64: the 65th is out of it", P06LevelsTest::sixtyFour);
         DUE.hold("many bit times in one call", P06LevelsTest::manyAtOnce);
         DUE.hold("the LEVEL is 0 if any drives 0, else 1", P06LevelsTest::anyZero);
+        DUE.hold("it changes nothing", () -> new Refused(DUE, 3).asks("levels()", BitBus::levels));
         DUE.end();
     }
 

@@ -15,6 +15,7 @@ public final class P07LookTest {
         DUE.hold("7, if it is SENDING or READING, else 0", P07LookTest::noBitsElse);
         DUE.hold("IllegalArgumentException: no node", P07LookTest::noNode);
         DUE.hold("IllegalArgumentException: no what", P07LookTest::noWhat);
+        DUE.hold("it changes nothing", P07LookTest::changesNothing);
         DUE.end();
     }
 
@@ -160,6 +161,16 @@ public final class P07LookTest {
         Bring.tec(off, 56);
         Bring.senderError(off);
         DUE.equal("off", off.look(0, 7), 0);
+    }
+
+    private static void changesNothing() {
+        for (int w = 0; w < 8; w++) {
+            int what = w;
+            for (int n = 0; n < 3; n++) {
+                int node = n;
+                new Refused(DUE, 3).asks("look(" + n + ", " + w + ")", bus -> bus.look(node, what));
+            }
+        }
     }
 
     private static void noNode() {

@@ -13,6 +13,7 @@ public final class P08GotTest {
         DUE.hold("IndexOutOfBoundsException: no frame", P08GotTest::noFrame);
         DUE.hold("no frame, at each number of frames", P08GotTest::lastFrame);
         DUE.hold("a wrong argument goes before no frame", P08GotTest::wrongAndNoFrame);
+        DUE.hold("it changes nothing", P08GotTest::changesNothing);
         DUE.end();
     }
 
@@ -97,6 +98,16 @@ public final class P08GotTest {
             DUE.badIndex("one behind " + frames, () -> bus.got(1, behind, 0));
             bus.take(1);
             DUE.badIndex("the last one's place when one is taken", () -> bus.got(1, behind - 1, 0));
+        }
+    }
+
+    private static void changesNothing() {
+        for (int w = 0; w < 3; w++) {
+            int what = w;
+            for (int place = 0; place < 6; place++) {
+                int i = place;
+                new Refused(DUE, 3).asks("got(1, " + i + ", " + what + ")", bus -> bus.got(1, i, what));
+            }
         }
     }
 

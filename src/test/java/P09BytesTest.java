@@ -8,6 +8,7 @@ public final class P09BytesTest {
         DUE.hold("of frame i (from 0, the oldest)", P09BytesTest::fromTheOldest);
         DUE.hold("Exceptions as with got(): no node", () -> Refused.noNode(DUE, (bus, node) -> bus.bytes(node, 0)));
         DUE.hold("Exceptions as with got(): no frame", P09BytesTest::noFrame);
+        DUE.hold("it changes nothing", P09BytesTest::changesNothing);
         DUE.end();
     }
 
@@ -53,6 +54,13 @@ public final class P09BytesTest {
         DUE.equal("the oldest when one is taken", bus.bytes(0, 0), 11);
         DUE.equal("the last when one is taken", bus.bytes(0, 4), 15);
         DUE.badIndex("behind it", () -> bus.bytes(0, 5));
+    }
+
+    private static void changesNothing() {
+        for (int place = 0; place < 6; place++) {
+            int i = place;
+            new Refused(DUE, 3).asks("bytes(1, " + i + ")", bus -> bus.bytes(1, i));
+        }
     }
 
     private static void noFrame() {

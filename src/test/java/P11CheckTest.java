@@ -11,7 +11,8 @@ public final class P11CheckTest {
         DUE.hold("n 64: all bits", P11CheckTest::allBits);
         DUE.hold("15 bits of it are kept", P11CheckTest::fifteenAreKept);
         DUE.hold("as it is in a frame", P11CheckTest::asInAFrame);
-        DUE.hold("it changes nothing", P11CheckTest::changesNothing);
+        DUE.hold("it changes nothing", () -> new Refused(DUE, 3).asks("check(-1, 64)", bus -> bus.check(-1, 64)));
+        DUE.hold("it is the same on any bus at any time", P11CheckTest::isTheSameAlways);
         DUE.hold("IllegalArgumentException: n is not 0 .. 64", P11CheckTest::refuses);
         DUE.end();
     }
@@ -74,12 +75,12 @@ public final class P11CheckTest {
         DUE.equal("bits on the bus", Wire.next(bus, wire.length()), wire);
     }
 
-    private static void changesNothing() {
-        BitBus asked = Refused.busy(3);
-        BitBus other = Refused.busy(3);
-        asked.check(-1, 64);
-        DUE.equal("what is seen", Wire.state(asked, 3), Wire.state(other, 3));
-        DUE.equal("what follows", Wire.next(asked, 500), Wire.next(other, 500));
+    private static void isTheSameAlways() {
+        BitBus busy = Refused.busy(4);
+        for (int i = 0; i < 100; i++) {
+            DUE.equal("at " + i, busy.check(0x5a5, 11), Wire.checkOf("10110100101"));
+            busy.run(1);
+        }
     }
 
     private static void refuses() {

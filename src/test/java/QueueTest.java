@@ -5,6 +5,7 @@ public final class QueueTest {
     public static void main(String[] args) {
         DUE.hold("at most 4", QueueTest::atMostFour);
         DUE.hold("the first one first", QueueTest::firstOneFirst);
+        DUE.hold("what comes while the first is being sent waits behind it", QueueTest::comesWhileItSends);
         DUE.hold("gives way: the frame stays in the queue", QueueTest::staysWhenItGivesWay);
         DUE.hold("a frame that was not SENT is not out of the queue", QueueTest::staysAfterAnError);
         DUE.hold("SENT: the frame is out of the queue", QueueTest::isOut);
@@ -35,6 +36,19 @@ public final class QueueTest {
             wire += Wire.frame(identifier, false, 0, 0) + "111";
         }
         DUE.equal("in the order they came, not by identifiers", Wire.next(bus, wire.length()), wire);
+    }
+
+    private static void comesWhileItSends() {
+        String first = Wire.frame(0x655, false, 2, 0x1234);
+        String both = first + "111" + Wire.frame(0x001, true, 8, -1);
+        for (int bits = 0; bits < first.length() + 3; bits++) {
+            BitBus bus = new BitBus(2);
+            bus.send(0, 0x655, false, 2, 0x1234);
+            String begun = Wire.next(bus, bits);
+            int waiting = bits < first.length() ? 2 : 1;
+            DUE.equal("queue after " + bits, bus.send(0, 0x001, true, 8, -1), waiting);
+            DUE.equal("levels after " + bits, begun + Wire.next(bus, both.length() - bits), both);
+        }
     }
 
     private static void staysWhenItGivesWay() {

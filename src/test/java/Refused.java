@@ -31,6 +31,13 @@ final class Refused {
         isAsWithout(what, asked);
     }
 
+    /** A call that just asks is not refused, and changes nothing either. */
+    void asks(String what, Call call) {
+        BitBus asked = busy(nodes);
+        call.make(asked);
+        isAsWithout(what, asked);
+    }
+
     /** 'No node': -1 and N, whatever N is, and the numbers furthest out. */
     static void noNode(Due due, NodeCall call) {
         for (int nodes = 2; nodes <= 4; nodes++) {
